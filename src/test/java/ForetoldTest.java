@@ -22,6 +22,7 @@ public final class ForetoldTest {
         wind();
         windOfManyDoors();
         drawn();
+        theLargestHouse();
         nothingChanges();
         check.end("ForetoldTest");
     }
@@ -295,6 +296,9 @@ public final class ForetoldTest {
         check.due("8, 2 and 8: the first", x.coldest(1, 0), 0);
         check.due("8", x.coldest(1, 1), 8);
         check.due("16, 6 and 14", x.coldest(2, 1), 16);
+        ColdGuest middle = Check.with("n3,1,10,5;");
+        check.due("room 1", middle.coldest(1, 0), 1);
+        check.due("10", middle.coldest(1, 1), 10);
         ColdGuest last = Check.with("n3,2,10,5;");
         check.due("room 2", last.coldest(60, 0), 2);
         check.due("600", last.coldest(60, 1), 600);
@@ -372,6 +376,14 @@ public final class ForetoldTest {
         drawn("door 1 open again", x, 2, 1, 38, 1);
         // shut: 50, 6
         drawn("shut once more", x, 3, 1, 56, 2);
+        // the same draws of three doors move 1, 1 and 2
+        ColdGuest three = Check.with("n4,0,20,9;d0,1,0;d0,2,0;d0,3,0;i1,1;f2,1;f3,2;");
+        drawn("door 1 opened: 15, 1, 3", three, 1, 1, 19, 0);
+        drawn("door 1 shut: 35, 2, 1", three, 2, 1, 38, 0);
+        drawn("door 2 opened: 55, less 13, and 3, 0, 9", three, 3, 1, 54, 0);
+        ColdGuest one = Check.with("n2,0,20,4;d0,1,0;f1,0;");
+        drawn("one door: opened", one, 1, 5, 20, 1);
+        drawn("one door: 35 and 5", one, 2, 5, 40, 2);
         ColdGuest none = Check.with("n1,0,10,15;r0,0;");
         drawn("no doors: hours all the same", none, 4, 7, 40, 3);
         drawn("60", none, 60, 999999, 600, 59);
@@ -381,6 +393,34 @@ public final class ForetoldTest {
         check.due("seed 1000000", none.drawn(1, 1000000, 0), BAD);
         check.due("what 2", none.drawn(1, 1, 2), BAD);
         check.due("what -1", none.drawn(1, 1, -1), BAD);
+    }
+
+    /** The most there can be of all: 6 rooms in a ring, 8 doors, 5 sitters of no force. */
+    private static void theLargestHouse() {
+        ColdGuest x = Check.with("n6,5,16,3;d5,0,1;d0,1,1;d1,2,1;d2,3,1;d3,4,1;d4,5,1;d5,3,0;d5,1,0;"
+            + "f0,0;f1,0;f2,0;f3,0;i5,0;");
+        int[] hour = {3, 1, 0, 0, 3, 9};
+        for (int r = 0; r < 6; r++) {
+            check.due("room " + r, x.ahead(1, r), hour[r]);
+        }
+        check.due("all", x.allAhead(1), 16);
+        check.due("shivers now or then", x.shivers(0), 1);
+        check.due("who", x.shivers(1), 4);
+        moved("as it is", x, call(49, 14, 2, 1), 0, 0);
+        moved("all doors", x, call(63, 0, 999, 1), NONE, NONE);
+        check.due("anywhere", x.sitWhere(4, 5, 1, 0), 0);
+        check.due("9", x.sitWhere(4, 5, 1, 1), 9);
+        led("no force moves it", x, 5, 9, 1, NONE);
+        led("never so cold", x, 5, 999, NONE, NONE);
+        Check.lay(x, 0, hour);
+        check.due("into room 5", x.came(0, 0, 1), 32);
+        check.due("who: fire, ice", x.who(4, 0, 0, 1), 48);
+        parted("the ring: doors 0 and 3", x, 5, 2, 2, 9);
+        check.due("coldest", x.coldest(1, 0), 5);
+        check.due("guest", x.guest(3), 63);
+        wind("room 0: door 0 open, door 1 shut", x, 0, 4, 6, 25);
+        wind("room 5", x, 5, 4, 1, 1);
+        check.due("drawn", x.drawn(3, 77, 0), 48);
     }
 
     private static void nothingChanges() {

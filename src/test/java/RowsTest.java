@@ -9,6 +9,7 @@ public final class RowsTest {
         set();
         copy();
         copyWithin();
+        rowsAreApart();
         drop();
         status();
         statusOfOtherCalls();
@@ -116,6 +117,31 @@ public final class RowsTest {
         check.due("towards the end", x.copy(0, 0, 0, 1, 3), 3);
         check.due("10 10 20 30", x.came(0, 1, 3), 1);
         check.due("10 10 20 30, from 0", x.came(0, 0, 2), 0);
+    }
+
+    /** Each row is told by what came() sees of it; whatever is done to one, the others stay. */
+    private static void rowsAreApart() {
+        ColdGuest x = Check.with("n1,0,10,0;");
+        for (int r = 0; r < 8; r++) {
+            check.due("row " + r, x.row(r, 2, 40), 40);
+        }
+        for (int r = 0; r < 8; r++) {
+            x.set(r, 0, 10);
+            x.set(r, 39, 10);
+        }
+        check.due("laid anew", x.row(3, 2, 40), 40);
+        for (int r = 0; r < 8; r++) {
+            check.due("first item of row " + r, x.came(r, 0, 1), r == 3 ? 0 : 1);
+            check.due("last item of row " + r, x.came(r, 39, 1), r == 3 ? 0 : 1);
+        }
+        check.due("from 5 to 3", x.copy(5, 0, 3, 38, 1), 1);
+        check.due("it came", x.came(3, 38, 1), 1);
+        check.due("alone", x.came(3, 0, 1), 0);
+        check.due("from 3 to 6", x.copy(3, 0, 6, 0, 38), 38);
+        check.due("the first is 0", x.came(6, 0, 1), 0);
+        check.due("the last is not", x.came(6, 39, 1), 1);
+        check.due("row 7 stays", x.came(7, 0, 1), 1);
+        check.due("row 5 stays", x.came(5, 0, 1), 1);
     }
 
     private static void drop() {

@@ -199,6 +199,7 @@ public final class TextTest {
         x.ask(0, 1);
         x.hours(5);
         x.door(0, 0);
+        x.allAhead(60);
         check.due("another house", Check.tell(x, "n2,1,4,0;d0,1,0;f1,1;"), 1);
         check.due("rows", x.count(0), 1);
         check.due("rooms", x.count(1), 2);
@@ -206,6 +207,8 @@ public final class TextTest {
         check.due("sitters", x.count(3), 1);
         check.due("hour", x.count(4), 0);
         check.due("cold", x.count(5), 0);
+        check.due("cold of room 0", x.room(0, 0), 0);
+        check.due("cold of room 1", x.room(1, 0), 0);
         check.due("open", x.count(6), 0);
         check.due("acts", x.count(7), 0);
         check.due("no act can be undone", x.undo(), STATE);
