@@ -12,6 +12,7 @@ public final class TextTest {
         faultsOfSitters();
         everyByte();
         everyPrefix();
+        whatEndsWithTheTape();
         whatAFaultLeaves();
         whatAHouseReplaces();
         check.end("TextTest");
@@ -65,10 +66,6 @@ public final class TextTest {
         sound("n1,0,0,0;r0,0;p0,1;t0,9;f0,10;i0,20;", 5);
         sound("n2,0,0,0;d0,1,0;r0,0;", 1);
         sound("n2,0,0,0;" + "d0,1,1;".repeat(8) + "i1,20;".repeat(5), 5);
-        // as long as a tape can be: 12 and 8 times 7 and 5 times 6 and 22 figures would not fit
-        String longest = "n02,00,00,00;" + "d00,01,01;".repeat(7) + "i01,20;".repeat(5);
-        check.due("bytes", longest.length(), 118);
-        sound(longest, 5);
         ColdGuest x = Check.with("n3,2,7,5;d0,1,0;d2,1,1;t1,4;i2,9;");
         check.due("rooms", x.count(1), 3);
         check.due("doors", x.count(2), 2);
@@ -173,6 +170,27 @@ public final class TextTest {
                 faulty(part, n, 1);
             }
         }
+    }
+
+    private static void whatEndsWithTheTape() {
+        ColdGuest x = new ColdGuest();
+        Check.tell(x, "n111");
+        check.due("figures of the tape before are none", Check.tell(x, "n1"), -1000102);
+        check.due("the end cannot stand there", x.fault(), 1);
+        Check.tell(x, "n1,0,0,0;r0,0;");
+        check.due("sitters of the tape before are none", Check.tell(x, "n1,0,0,0;"), 0);
+        String full = "n02,00,00,00;" + "d00,01,01;".repeat(7) + "i01,20;".repeat(4) + "d00,01,01";
+        check.due("bytes", full.length(), 120);
+        faulty(full, 111, 1);
+        String figure = "n02,00,00,00;" + "d00,01,01;".repeat(8) + "i01,20;".repeat(2) + "i0,20;" + "i00,020";
+        check.due("bytes", figure.length(), 120);
+        faulty(figure, 117, 1);
+        String cut = "n02,00,00,00;" + "d00,01,01;".repeat(8) + "i01,20;".repeat(3) + "i00,20";
+        check.due("bytes", cut.length(), 120);
+        faulty(cut, 120, 1);
+        String whole = "n02,00,00,00;" + "d00,01,01;".repeat(8) + "i01,20;".repeat(3) + "i0,20;";
+        check.due("bytes", whole.length(), 120);
+        sound(whole, 4);
     }
 
     private static void whatAFaultLeaves() {
