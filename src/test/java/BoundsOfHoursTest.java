@@ -58,13 +58,15 @@ public final class BoundsOfHoursTest {
         say.hold("2: half of this (cut): of 3", "house[n2,0,15,0;d0,1,1;r0,0;]=1 hours(1)=15 room(0,0)=14 room(1,0)=1");
         say.hold("2: half of this (cut): of 4", "house[n2,0,16,0;d0,1,1;r0,0;]=1 hours(1)=16 room(0,0)=14 room(1,0)=2");
         say.hold("2: half of a fourth that is cut: 14 is 3, and 1", "house[n2,0,14,0;d0,1,1;r0,0;]=1 hours(1)=14 room(1,0)=1");
-        say.hold("2: if anybody HOLDS: two as one", "house[n2,0,16,0;d0,1,1;r0,0;r0,0;t0,0;]=3 hours(1)=16 room(1,0)=2");
+        say.hold("2: if anybody HOLDS: two as one", "house[n2,0,16,0;d0,1,1;r0,0;t0,0;]=2 room(0,2)=1 hours(1)=16 room(1,0)=2");
+        say.hold("2: if anybody HOLDS: five as one", "house[n2,0,16,0;d0,1,1;r0,0;r0,0;t0,0;r0,0;t0,0;]=5 room(0,2)=1 hours(1)=16 room(1,0)=2");
         say.hold("2: HOLDS where it goes from, not where it goes to", "house[n2,0,16,0;d0,1,1;r1,0;t1,0;]=2 hours(1)=16 room(1,0)=4");
         say.hold("2: HOLDS, from B to A", "house[n2,1,16,0;d0,1,1;r1,0;]=1 hours(1)=16 room(0,0)=2 house[n2,1,16,0;d0,1,1;r0,0;]=1 hours(1)=16 room(0,0)=4");
     }
 
     private static void none() {
         say.hold("2: if anybody KEEPS it there, none", "house[n2,0,40,0;d0,1,1;p0,0;]=1 hours(5)=200 room(0,0)=200 room(1,0)=0");
+        say.hold("2: if anybody KEEPS it there: two as one", "house[n2,0,40,0;d0,1,1;p0,0;p0,0;]=2 room(0,3)=1 hours(1)=40 room(1,0)=0 sit(0,1)=0 hours(1)=80 room(1,0)=0");
         say.hold("2: KEEPS, though others hold", "house[n2,0,40,0;d0,1,1;r0,0;p0,0;t0,0;]=3 hours(1)=40 room(1,0)=0");
         say.hold("2: KEEPS where it goes from, not where it goes to", "house[n2,0,40,0;d0,1,1;p1,0;]=1 hours(1)=40 room(1,0)=10");
         say.hold("2: KEEPS, from B to A", "house[n2,1,40,0;d0,1,1;p1,0;]=1 hours(1)=40 room(0,0)=0");

@@ -117,6 +117,9 @@ public final class BoundsOfRowsTest {
         say.hold("copy: from one to another, no more than n",
             TEN + "row(0,2,4)=4 row(1,2,4)=4 set(0,0,10)=10 set(0,1,20)=20 set(0,2,10)=10 copy(0,0,1,1,2)=2",
             "came(1,0,1)=0 came(1,1,2)=1 came(1,3,1)=0 came(0,0,2)=1");
+        say.hold("copy: from one to another, the last ROW to the first",
+            TEN + "row(0,2,2)=2 row(1,2,2)=2 row(7,2,2)=2 set(7,0,10)=10 set(7,1,20)=20 copy(7,0,0,0,2)=2 came(0,0,2)=1",
+            "copy(1,0,7,0,1)=1 came(7,0,1)=0 came(0,0,2)=1 copy(0,0,7,0,1)=1 came(7,0,2)=1 came(1,0,1)=0");
         say.hold("copy: n ITEMS, all of 40",
             TEN + "row(0,1,40)=40 row(7,1,40)=40 set(0,0,10)=10 set(0,39,10)=10 copy(0,0,7,0,40)=40 came(7,0,1)=1",
             "came(7,39,1)=1 copy(0,0,7,0,41)=PLACE");

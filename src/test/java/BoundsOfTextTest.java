@@ -139,6 +139,9 @@ public final class BoundsOfTextTest {
             "house[n2,1,8,5;d0,1,0;t1,4;]=1 count(1)=2 count(2)=1 count(3)=1 count(4)=0 count(5)=0 count(6)=0 count(7)=0 undo()=STATE",
             "room(0,0)=0 room(1,0)=0 room(2,0)=BAD sitter(0,0)=1 sitter(1,0)=BAD doorHas(1,0)=BAD hours(1)=4 room(1,0)=4");
         say.hold("1: the same one read again", "house[n1,0,7,3;r0,0;]=1 hours(3)=21 house[n1,0,7,3;r0,0;]=1 count(4)=0 count(5)=0 count(7)=0 sitter(0,2)=0");
+        say.hold("1: HOUR 0, no COLD anywhere, whatever was foretold of the one before",
+            "house[n2,0,40,9;d0,1,1;r0,3;]=1 hours(9)=360 ahead(60,0) drawn(60,9,0) house[n2,1,8,9;d1,0,0;]=0 count(4)=0 count(5)=0",
+            "count(6)=0 count(7)=0 hours(1)=8 count(4)=1 room(1,0)=8 allAhead(60) house[n2,1,8,9;d1,0,0;]=0 count(4)=0 count(5)=0");
         say.hold("1: (none at first)", "count(1)=0 hours(1)=STATE house[n1,0,7,3;]=0 hours(1)=7");
     }
 
