@@ -4,11 +4,13 @@ import java.lang.reflect.Method;
 import java.lang.reflect.Modifier;
 import java.nio.file.Files;
 import java.nio.file.Path;
-import java.util.ArrayList;
 import java.util.Arrays;
 import java.util.List;
+import java.util.Map;
 import java.util.Set;
+import java.util.TreeMap;
 import java.util.TreeSet;
+import java.util.regex.Matcher;
 import java.util.regex.Pattern;
 
 /** The rules of LANGUAGE.md that can be seen in the source or in the class. */
@@ -23,6 +25,9 @@ public final class LanguageTest {
         "int parted(int,int,int)", "int coldest(int,int)", "int guest(int)", "long wind(int,int,int)",
         "int drawn(int,int,int)", "int image(int)", "int restore(int)", "int kind(int)", "int as(int,int)",
         "int ask(int,int)", "int trace(int)", "int count(int)", "int status()"};
+    private static final int MOST_DEPTH = 8;
+    private static final Pattern HEAD = Pattern.compile("( {4}| {8})(?:\\w+ )+(\\w+)\\(.*\\) \\{");
+    private static final Pattern CALL = Pattern.compile("(\\w+)\\(");
     private static final Check check = new Check();
 
     public static void main(String[] args) throws IOException {
@@ -38,6 +43,7 @@ public final class LanguageTest {
         words();
         objectsAreMadeWithFields();
         methodsAreShort();
+        callsAreFlat();
         check.end("LanguageTest");
     }
 
@@ -112,19 +118,51 @@ public final class LanguageTest {
         }
     }
 
-    private static void methodsAreShort() throws IOException {
-        List<String> lines = Files.readAllLines(SOURCE);
-        List<Integer> starts = new ArrayList<>();
+    /** Each method's lines, from its head to its closing brace, by its name. */
+    private static Map<String, List<String>> methods() throws IOException {
+        List<String> lines = List.of(withoutComments(Files.readString(SOURCE)).split("\n"));
+        Map<String, List<String>> found = new TreeMap<>();
         for (int i = 0; i < lines.size(); i++) {
-            String line = lines.get(i);
-            int depth = line.length() - line.stripLeading().length();
-            if (line.endsWith(") {") && (depth == 4 || depth == 8) && !line.strip().startsWith("if") && !line.strip().startsWith("for")) {
-                starts.add(i);
-                String end = " ".repeat(depth) + "}";
-                int last = i + lines.subList(i, lines.size()).indexOf(end);
-                check.holds(line.strip() + " is short", last > i && last - i < 60);
+            Matcher head = HEAD.matcher(lines.get(i));
+            if (head.matches()) {
+                int last = i + lines.subList(i, lines.size()).indexOf(head.group(1) + "}");
+                check.holds("one method of the name " + head.group(2), !found.containsKey(head.group(2)));
+                found.put(head.group(2), lines.subList(i, last + 1));
             }
         }
-        check.holds("methods were found", starts.size() > FACE.length);
+        int due = ColdGuest.class.getDeclaredMethods().length + ColdGuest.class.getDeclaredConstructors().length;
+        for (Class<?> inside : ColdGuest.class.getDeclaredClasses()) {
+            due += inside.getDeclaredMethods().length;
+        }
+        check.due("methods that were found", found.size(), due);
+        return found;
+    }
+
+    private static void methodsAreShort() throws IOException {
+        for (Map.Entry<String, List<String>> one : methods().entrySet()) {
+            check.holds(one.getKey() + " has an end", !one.getValue().isEmpty());
+            check.holds(one.getKey() + " is short", one.getValue().size() <= 60);
+        }
+    }
+
+    /** No method comes round to itself, and none stands more than eight deep. */
+    private static void callsAreFlat() throws IOException {
+        Map<String, List<String>> bodies = methods();
+        for (String name : bodies.keySet()) {
+            int deep = depth(name, bodies, MOST_DEPTH + 1);
+            check.holds(name + " goes " + MOST_DEPTH + " deep at most", deep <= MOST_DEPTH);
+        }
+    }
+
+    private static int depth(String name, Map<String, List<String>> bodies, int left) {
+        int below = 0;
+        List<String> body = bodies.get(name);
+        Matcher call = CALL.matcher(String.join("\n", body.subList(1, body.size())));
+        while (left > 0 && call.find()) {
+            if (bodies.containsKey(call.group(1))) {
+                below = Math.max(below, depth(call.group(1), bodies, left - 1));
+            }
+        }
+        return 1 + below;
     }
 }
